@@ -30,6 +30,15 @@ public final class P03CutTest {
         Check.bedIs(x, 0, 2, 9, 1, 50, 27, 13, 0, 7, 54, 46);
         Check.same("cut(0)", x.cut(0), 27);
         Check.bedIs(x, 0, 2, 9, 0, 50, 0, 0, 13, 21, 54, 46);
+
+        SedgeBarges y = new SedgeBarges();
+        y.bed(2, 9, 70);
+        y.pass(99);
+        y.cut(0);
+        // 75 of sedge and 33 of reed, of which 8 and 4 rot.
+        y.pass(1);
+        Check.same("cut(0) onto untied ones", y.cut(0), 27);
+        Check.bedIs(y, 0, 2, 9, 0, 70, 0, 0, 67 + 18, 29 + 9, 0, 0);
     }
 
     private static void growthByAge() {

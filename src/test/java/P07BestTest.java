@@ -4,6 +4,7 @@ public final class P07BestTest {
         ordinary();
         creptInto();
         untilTheNinthYear();
+        ofEightBeds();
         wrongInputs();
         Check.end();
     }
@@ -52,6 +53,15 @@ public final class P07BestTest {
         }
         Check.same("about(0, 2)", y.about(0, 2), 9);
         Check.tells(y, "best(0) of an old bed of reed", 0, () -> y.best(0));
+    }
+
+    private static void ofEightBeds() {
+        SedgeBarges x = new SedgeBarges();
+        for (int bed = 0; bed < 8; bed++) {
+            x.bed(4 * bed, 9, bed == 7 ? 0 : 90);
+        }
+        Check.tells(x, "best(5)", 2, () -> x.best(5));
+        Check.tells(x, "best(6) beside the last bed", 1, () -> x.best(6));
     }
 
     private static void wrongInputs() {

@@ -104,24 +104,31 @@ public final class P17PassTest {
         SedgeBarges x = new SedgeBarges();
         x.bed(10, 1, 60);
         x.bed(14, 1, 30);
+        x.bed(0, 1, 60);
         x.bed(5, 1, 1);
-        x.bed(30, 1, 60);
-        x.bed(26, 1, 31);
         x.bed(20, 1, 60);
         x.bed(20, 1, 20);
         x.bed(19, 1, 10);
         x.pass(100);
-        // 4 places away and 30 less; and the one with 1 is 5 places away.
-        Check.same("about(0, 3)", x.about(0, 3), 59);
+        Check.same("about(0, 3), 4 places and 30 less", x.about(0, 3), 59);
         Check.same("about(1, 3)", x.about(1, 3), 32);
-        Check.same("about(2, 3)", x.about(2, 3), 3);
-        // 29 less is too little.
-        Check.same("about(3, 3)", x.about(3, 3), 62);
-        Check.same("about(4, 3)", x.about(4, 3), 33);
-        // Beside two of them, but 3 less once.
-        Check.same("about(5, 3)", x.about(5, 3), 59);
-        Check.same("about(6, 3)", x.about(6, 3), 22);
-        Check.same("about(7, 3)", x.about(7, 3), 12);
+        Check.same("about(2, 3), 5 places away", x.about(2, 3), 62);
+        Check.same("about(3, 3)", x.about(3, 3), 3);
+        Check.same("about(4, 3), beside two, but 3 less once", x.about(4, 3), 59);
+        Check.same("about(5, 3)", x.about(5, 3), 22);
+        Check.same("about(6, 3)", x.about(6, 3), 12);
+
+        SedgeBarges y = new SedgeBarges();
+        y.bed(30, 1, 60);
+        y.bed(26, 1, 31);
+        y.bed(8, 1, 60);
+        y.bed(4, 1, 0);
+        y.bed(15, 1, 60);
+        y.bed(20, 1, 0);
+        y.pass(100);
+        Check.same("about(0, 3), 29 less is too little", y.about(0, 3), 62);
+        Check.same("about(2, 3), the other ahead of it", y.about(2, 3), 59);
+        Check.same("about(4, 3), the other 5 places behind it", y.about(4, 3), 62);
     }
 
     private static void heldAtBothEnds() {

@@ -14,6 +14,7 @@ public final class P18ForeseeTest {
         // The beds 0 and 1 are cut, and the bed 2 of size 4 is 3 years old; the year ends behind 98 days.
         Check.tells(x, "foresee(1, 4)", 48, () -> x.foresee(1, 4));
         Check.tells(x, "foresee(100, 4)", 18 + 27 + 72, () -> x.foresee(100, 4));
+        ofEightBeds();
         wrongInputs();
         Check.end();
     }
@@ -36,6 +37,19 @@ public final class P18ForeseeTest {
         x.sail(1, 2);
         x.pass(1);
         return x;
+    }
+
+    private static void ofEightBeds() {
+        SedgeBarges x = new SedgeBarges();
+        for (int bed = 0; bed < 8; bed++) {
+            x.bed(bed, 1, 10);
+            x.cut(bed);
+        }
+        // 1 of sedge and 11 of reed on each bank: 1 and 2 rot, then 1, and each day 1.
+        Check.tells(x, "foresee(1, 10)", 24, () -> x.foresee(1, 10));
+        Check.tells(x, "foresee(2, 10)", 32, () -> x.foresee(2, 10));
+        Check.tells(x, "foresee(2, 5)", 64, () -> x.foresee(2, 5));
+        Check.tells(x, "foresee(200, 4)", 8 * 6, () -> x.foresee(200, 4));
     }
 
     private static void wrongInputs() {

@@ -14,6 +14,10 @@ public final class P19MeanTest {
         Check.same("digest() behind mean()", x.digest(), before);
         x.pass(100);
         Check.sameDouble("mean() of 2, 27 and 100", x.mean(), 43);
+        for (int bed = 3; bed < 8; bed++) {
+            x.bed(30, 1, 50);
+        }
+        Check.sameDouble("mean() of eight", x.mean(), (2 + 27 + 100 + 5 * 50) / 8.0);
         Check.end();
     }
 }

@@ -1,0 +1,158 @@
+import java.util.Random;
+
+/** Runs of 512 calls, drawn from written seeds, with the same answers from the program and the model. */
+public final class ModelTest {
+    private static final int RUNS = 600;
+    private static final int CALLS = 512;
+    private static final int[] EXTREMES = {Integer.MIN_VALUE, -1000, -1, 31, 201, 501, 1000, Integer.MAX_VALUE};
+
+    // The work that fills landings: cut, buy, tie, load, sell and short times, mostly.
+    private static final int[] BUSY_KINDS = {1, 1, 2, 2, 3, 7, 8, 8, 8, 9, 9, 9, 12, 13, 13, 15, 15};
+
+    private final Random random;
+    private final boolean busy;
+    private final SedgeBarges program = new SedgeBarges();
+    private final Model model = new Model();
+
+    private ModelTest(long seed) {
+        random = new Random(seed);
+        busy = seed % 3 == 0;
+    }
+
+    public static void main(String[] args) {
+        for (int run = 0; run < RUNS; run++) {
+            if (!new ModelTest(run).agrees(run)) {
+                break;
+            }
+        }
+        Check.end();
+    }
+
+    private boolean agrees(int run) {
+        for (int call = 0; call < CALLS; call++) {
+            int kind = kind(call);
+            int a = firstArgument(kind);
+            int b = secondArgument(kind);
+            int c = mostly(0, 100);
+            String name = "run " + run + ", call " + call + ": kind " + kind + " (" + a + ", " + b + ", " + c + ")";
+            String got = answer(() -> ofProgram(kind, a, b, c));
+            String due = answer(() -> ofModel(kind, a, b, c));
+            if (!got.equals(due)) {
+                Check.tell(name + " answered " + got + ", by the model it is " + due);
+                return false;
+            }
+            if (program.digest() != model.digest() || program.mean() != model.mean()) {
+                Check.tell(name + " leaves another digest or mean than the model");
+                return false;
+            }
+        }
+        return true;
+    }
+
+    private int kind(int call) {
+        if (busy && call < 11) {
+            return call < 8 ? 0 : 6;
+        }
+        if (busy && random.nextInt(5) != 0) {
+            return BUSY_KINDS[random.nextInt(BUSY_KINDS.length)];
+        }
+        return random.nextInt(17);
+    }
+
+    private int mostly(int least, int most) {
+        if (random.nextInt(40) == 0) {
+            return EXTREMES[random.nextInt(EXTREMES.length)];
+        }
+        if (random.nextInt(40) == 0) {
+            return random.nextBoolean() ? least - 1 : most + 1;
+        }
+        return least + random.nextInt(most - least + 1);
+    }
+
+    /** Few places, so that beds lie near one another, and barges come to beds and landings. */
+    private int place() {
+        if (busy && random.nextInt(12) != 0) {
+            return new int[] {2, 15, 28}[random.nextInt(3)];
+        }
+        int[] near = {0, 2, 2, 4, 7, 11, 12, 15, 15, 19, 24, 28, 28, 30};
+        return random.nextInt(4) == 0 ? mostly(0, 30) : near[random.nextInt(near.length)];
+    }
+
+    private int firstArgument(int kind) {
+        switch (kind) {
+            case 0: case 6: return place();
+            case 1: case 2: case 4: case 5: return mostly(0, Math.max(0, program.count(3) - 1));
+            case 3: return mostly(busy ? 400 : 1, random.nextBoolean() || busy ? 500 : 100);
+            case 11: return mostly(0, 2);
+            case 14: return mostly(0, 10);
+            case 15: return random.nextInt(3) == 0 ? mostly(1, 200) : mostly(1, busy ? 2 : 6);
+            case 16: return mostly(1, 200);
+            default: return mostly(0, Math.max(0, program.count(7) - 1));
+        }
+    }
+
+    private int secondArgument(int kind) {
+        switch (kind) {
+            case 0: return mostly(busy ? 7 : 1, 9);
+            case 4: return mostly(0, 9);
+            case 7: return place();
+            case 8: return mostly(0, Math.max(0, program.count(3) - 1));
+            case 10: return mostly(0, 5);
+            case 11: return mostly(0, 3);
+            case 12: return mostly(0, 2);
+            default: return random.nextInt(4) == 0 ? mostly(0, 10) : new int[] {4, 5, 9, 10}[random.nextInt(4)];
+        }
+    }
+
+    private static String answer(Check.Call call) {
+        try {
+            return Long.toString(call.answer());
+        } catch (RuntimeException e) {
+            return e.getClass().getSimpleName();
+        }
+    }
+
+    private long ofProgram(int kind, int a, int b, int c) {
+        switch (kind) {
+            case 0: return program.bed(a, b, c);
+            case 1: return program.cut(a);
+            case 2: return program.tie(a);
+            case 3: return program.buy(a);
+            case 4: return program.about(a, b);
+            case 5: return program.best(a);
+            case 6: return program.barge(a);
+            case 7: return program.sail(a, b);
+            case 8: return program.load(a, b);
+            case 9: return program.sell(a);
+            case 10: return program.told(a, b);
+            case 11: return program.landing(a, b);
+            case 12: return program.would(a, b);
+            case 13: return program.advise(a);
+            case 14: return program.count(a);
+            case 15: return program.pass(a);
+            default: return program.foresee(a, b);
+        }
+    }
+
+    private long ofModel(int kind, int a, int b, int c) {
+        switch (kind) {
+            case 0: return model.bed(a, b, c);
+            case 1: return model.cut(a);
+            case 2: return model.tie(a);
+            case 3: return model.buy(a);
+            case 4: return model.about(a, b);
+            case 5: return model.best(a);
+            case 6: return model.barge(a);
+            case 7: return model.sail(a, b);
+            case 8: return model.load(a, b);
+            case 9: return model.sell(a);
+            case 10: return model.told(a, b);
+            case 11: return model.landing(a, b);
+            case 12: return model.would(a, b);
+            case 13: return model.advise(a);
+            case 14: return model.count(a);
+            case 15: return model.pass(a);
+            default: return model.foresee(a, b);
+        }
+    }
+}
