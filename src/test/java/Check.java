@@ -1,12 +1,36 @@
-/** What the tests share: each wrong answer is printed, and end() exits with 1 if there was one. */
+import java.util.function.Supplier;
+import java.util.function.ToLongFunction;
+
+/**
+ * What the tests share. Each wrong answer is printed below the sentence of the document that it breaks,
+ * and end() exits with 1 if there was one.
+ */
 final class Check {
+    private static final Class<?> OUTSIDE = IndexOutOfBoundsException.class;
+    private static final Class<?> WRONG_ARGUMENT = IllegalArgumentException.class;
+    private static final Class<?> WRONG_STATE = IllegalStateException.class;
+
+    private static int held = 0;
+    private static int broken = 0;
     private static int wrong = 0;
 
-    interface Call {
-        long answer();
+    private Check() {
     }
 
-    private Check() {
+    /** The test of one sentence; the words are the document's. */
+    static void holds(String sentence, Runnable test) {
+        int before = wrong;
+        try {
+            test.run();
+        } catch (RuntimeException e) {
+            tell("a call that is not refused threw " + e);
+        }
+        if (wrong == before) {
+            held++;
+        } else {
+            broken++;
+            System.out.println("  broken: " + sentence);
+        }
     }
 
     static void same(String call, long got, long due) {
@@ -21,40 +45,79 @@ final class Check {
         }
     }
 
-    /** A refused call throws just the class that is due, none below it, and changes nothing. */
-    static void refused(SedgeBarges x, Class<?> due, String call, Call refusedCall) {
-        long before = x.digest();
+    /** In the scene the call throws just the class that is due, none below it. */
+    private static void refused(Supplier<SedgeBarges> scene, Class<?> due, String call,
+            ToLongFunction<SedgeBarges> refusedCall) {
+        SedgeBarges x = scene.get();
         try {
-            tell(call + " answered " + refusedCall.answer() + ", due is " + due.getSimpleName());
+            tell(call + " answered " + refusedCall.applyAsLong(x) + ", due is " + due.getSimpleName());
         } catch (RuntimeException e) {
             if (e.getClass() != due) {
                 tell(call + " threw " + e + ", due is " + due.getSimpleName());
             }
         }
-        if (x.digest() != before) {
-            tell(call + " is refused, but changed something");
+        unchanged(scene, x, call);
+    }
+
+    static void outside(Supplier<SedgeBarges> scene, String call, ToLongFunction<SedgeBarges> refusedCall) {
+        refused(scene, OUTSIDE, call, refusedCall);
+    }
+
+    static void wrongArgument(Supplier<SedgeBarges> scene, String call, ToLongFunction<SedgeBarges> refusedCall) {
+        refused(scene, WRONG_ARGUMENT, call, refusedCall);
+    }
+
+    static void wrongState(Supplier<SedgeBarges> scene, String call, ToLongFunction<SedgeBarges> refusedCall) {
+        refused(scene, WRONG_STATE, call, refusedCall);
+    }
+
+    /** In the scene the call answers what is due, and changes nothing. */
+    static void tells(Supplier<SedgeBarges> scene, String call, long due, ToLongFunction<SedgeBarges> telling) {
+        SedgeBarges x = scene.get();
+        same(call, telling.applyAsLong(x), due);
+        unchanged(scene, x, call);
+    }
+
+    /** What is told is as in a fresh scene where the call was not made, and is so behind some days more. */
+    private static void unchanged(Supplier<SedgeBarges> scene, SedgeBarges x, String call) {
+        SedgeBarges fresh = scene.get();
+        String due = picture(fresh);
+        String got = picture(x);
+        if (!got.equals(due)) {
+            tell(call + " is to change nothing, but made " + got + " of " + due);
+        }
+        x.pass(101);
+        fresh.pass(101);
+        if (!picture(x).equals(picture(fresh))) {
+            tell(call + " is to change nothing, but changed what comes later");
         }
     }
 
-    static void outside(SedgeBarges x, String call, Call refusedCall) {
-        refused(x, IndexOutOfBoundsException.class, call, refusedCall);
-    }
-
-    static void wrongArgument(SedgeBarges x, String call, Call refusedCall) {
-        refused(x, IllegalArgumentException.class, call, refusedCall);
-    }
-
-    static void wrongState(SedgeBarges x, String call, Call refusedCall) {
-        refused(x, IllegalStateException.class, call, refusedCall);
-    }
-
-    /** A call that only tells answers what is due, and changes nothing. */
-    static void tells(SedgeBarges x, String call, long due, Call telling) {
-        long before = x.digest();
-        same(call, telling.answer(), due);
-        if (x.digest() != before) {
-            tell(call + " only tells, but changed something");
+    /** All that an object tells: unlike a checksum it can't be the same for two states. */
+    static String picture(SedgeBarges x) {
+        StringBuilder text = new StringBuilder("counts");
+        for (int what = 0; what <= 10; what++) {
+            text.append(' ').append(x.count(what));
         }
+        for (int bed = 0; bed < x.count(3); bed++) {
+            text.append(", bed");
+            for (int what = 0; what <= 9; what++) {
+                text.append(' ').append(x.about(bed, what));
+            }
+        }
+        for (int barge = 0; barge < x.count(7); barge++) {
+            text.append(", barge");
+            for (int what = 0; what <= 5; what++) {
+                text.append(' ').append(x.told(barge, what));
+            }
+        }
+        for (int landing = 0; landing <= 2; landing++) {
+            text.append(", landing");
+            for (int what = 0; what <= 3; what++) {
+                text.append(' ').append(x.landing(landing, what));
+            }
+        }
+        return text.toString();
     }
 
     static void bedIs(SedgeBarges x, int bed, int... due) {
@@ -87,6 +150,7 @@ final class Check {
     }
 
     static void end() {
+        System.out.println("  " + held + " sentences hold, " + broken + " broken");
         if (wrong != 0) {
             System.exit(1);
         }

@@ -15,6 +15,12 @@ public final class FaceTest {
         "int count(int)", "int pass(int)", "int foresee(int,int)", "double mean()", "long digest()"};
 
     public static void main(String[] args) {
+        Check.holds("The public face", FaceTest::face);
+        Check.holds("int bed(..) throws IndexOutOfBoundsException, IllegalArgumentException, ..", FaceTest::exceptions);
+        Check.end();
+    }
+
+    private static void face() {
         int kind = SedgeBarges.class.getModifiers();
         if (!Modifier.isPublic(kind) || !Modifier.isFinal(kind)) {
             Check.tell("the class is not public and final");
@@ -44,7 +50,46 @@ public final class FaceTest {
                 || constructors[0].getParameterCount() != 0) {
             Check.tell("the constructors are " + Arrays.toString(constructors));
         }
-        Check.end();
+    }
+
+    /** In the order of the document. */
+    private static void exceptions() {
+        String outside = "IndexOutOfBoundsException ";
+        String argument = "IllegalArgumentException ";
+        String state = "IllegalStateException ";
+        thrownBy("bed", outside + argument + state);
+        thrownBy("cut", outside + state);
+        thrownBy("tie", outside);
+        thrownBy("buy", argument + state);
+        thrownBy("about", outside);
+        thrownBy("best", outside);
+        thrownBy("barge", outside + state);
+        thrownBy("sail", outside);
+        thrownBy("load", outside + state);
+        thrownBy("sell", outside + state);
+        thrownBy("told", outside);
+        thrownBy("landing", outside);
+        thrownBy("would", outside);
+        thrownBy("advise", outside);
+        thrownBy("count", outside);
+        thrownBy("pass", argument);
+        thrownBy("foresee", argument + outside);
+        thrownBy("mean", "");
+        thrownBy("digest", "");
+    }
+
+    private static void thrownBy(String name, String due) {
+        for (Method method : SedgeBarges.class.getDeclaredMethods()) {
+            if (method.getName().equals(name) && Modifier.isPublic(method.getModifiers())) {
+                StringBuilder thrown = new StringBuilder();
+                for (Class<?> exception : method.getExceptionTypes()) {
+                    thrown.append(exception.getSimpleName()).append(' ');
+                }
+                if (!thrown.toString().equals(due)) {
+                    Check.tell(name + " throws " + thrown + ", due is " + due);
+                }
+            }
+        }
     }
 
     private static String signature(Method method) {

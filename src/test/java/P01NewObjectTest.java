@@ -1,29 +1,27 @@
 /** Promise 1: a new waterway has no beds and no barges, and it is the day 0. */
 public final class P01NewObjectTest {
     public static void main(String[] args) {
-        SedgeBarges x = new SedgeBarges();
-        Check.countsAre(x, 0, 20, 100, 0, 0, 0, 0, 0, 0, 0, 0);
-        Check.landingIs(x, 0, 2, 0, 12, 6);
-        Check.landingIs(x, 1, 15, 0, 9, 4);
-        Check.landingIs(x, 2, 28, 0, 14, 7);
-        Check.outside(x, "about(0, 0)", () -> x.about(0, 0));
-        Check.outside(x, "told(0, 0)", () -> x.told(0, 0));
-        Check.sameDouble("mean()", x.mean(), 0);
-        objectsShareNothing();
+        Check.holds("Creates a waterway without beds and barges, on the day 0.", P01NewObjectTest::isEmpty);
+        Check.holds("Creates a waterway (each for itself)", P01NewObjectTest::sharesNothing);
         Check.end();
     }
 
-    private static void objectsShareNothing() {
-        SedgeBarges x = new SedgeBarges();
-        x.bed(15, 9, 50);
-        x.barge(15);
-        x.cut(0);
-        x.tie(0);
-        x.load(0, 0);
-        x.sell(0);
-        x.pass(150);
-        SedgeBarges y = new SedgeBarges();
-        Check.countsAre(y, 0, 20, 100, 0, 0, 0, 0, 0, 0, 0, 0);
-        Check.same("landing(1, 1)", y.landing(1, 1), 0);
+    private static void isEmpty() {
+        Check.countsAre(new SedgeBarges(), 0, 20, 100, 0, 0, 0, 0, 0, 0, 0, 0);
+        Check.outside(Scenes::empty, "about(0, 0)", x -> x.about(0, 0));
+        Check.outside(Scenes::empty, "told(0, 0)", x -> x.told(0, 0));
+    }
+
+    private static void sharesNothing() {
+        SedgeBarges before = new SedgeBarges();
+        String due = Check.picture(before);
+        SedgeBarges other = Scenes.full();
+        other.pass(150);
+        if (!Check.picture(before).equals(due)) {
+            Check.tell("work on one object changed an older one");
+        }
+        if (!Check.picture(new SedgeBarges()).equals(due)) {
+            Check.tell("work on one object changed what a newer one is at first");
+        }
     }
 }

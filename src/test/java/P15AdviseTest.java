@@ -1,80 +1,101 @@
+import java.util.function.Supplier;
+
 /** Promise 15: advise. */
 public final class P15AdviseTest {
     public static void main(String[] args) {
-        SedgeBarges x = new SedgeBarges();
-        x.bed(28, 9, 100);
-        x.bed(28, 1, 100);
-        x.barge(28);
-        x.barge(28);
-        Check.tells(x, "advise(0) of nothing", 0, () -> x.advise(0));
-        x.buy(200);
-        x.cut(0);
-        x.cut(1);
-        x.tie(1);
-        x.load(1, 1);
-        Check.tells(x, "advise(1)", 2, () -> x.advise(1));
-        x.tie(0);
-        x.load(0, 0);
-        x.sell(0);
-        // 108 in store make 10 coins at 2.
-        Check.tells(x, "advise(1) with 108 in store at 2", 0, () -> x.advise(1));
-        Check.same("told(1, 1)", x.told(1, 1), -1);
-        ofSeveralTheSmallest();
-        theMiddleOne();
-        Check.outside(x, "advise(-1)", () -> x.advise(-1));
-        Check.outside(x, "advise(2)", () -> x.advise(2));
-        Check.outside(x, "advise(MIN)", () -> x.advise(Integer.MIN_VALUE));
-        SedgeBarges y = new SedgeBarges();
-        Check.outside(y, "advise(0) without barges", () -> y.advise(0));
+        Check.holds("the landing where what is aboard would bring the most coins", P15AdviseTest::theMost);
+        Check.holds("as would() has it", P15AdviseTest::asWouldHasIt);
+        Check.holds("of several the one with the smallest number", P15AdviseTest::theSmallest);
+        Check.holds("(nothing is changed)", P15AdviseTest::nothingIsChanged);
+        Check.holds("Throws IndexOutOfBoundsException if there is no such barge", P15AdviseTest::noSuchBarge);
         Check.end();
     }
 
-    private static void ofSeveralTheSmallest() {
-        SedgeBarges x = new SedgeBarges();
-        x.bed(28, 5, 100);
-        x.bed(28, 1, 100);
-        x.barge(28);
-        x.barge(28);
-        x.cut(0);
-        x.cut(1);
-        x.tie(0);
-        x.load(0, 0);
-        x.sell(0);
-        x.tie(1);
-        x.load(1, 1);
-        // 60 in store make 12 coins at 2, as many as at 0.
-        Check.same("would(1, 0)", x.would(1, 0), 144);
-        Check.same("would(1, 2)", x.would(1, 2), 144);
-        Check.tells(x, "advise(1), of two the smallest", 0, () -> x.advise(1));
+    private static void advises(Supplier<SedgeBarges> scene, int first, int second, int third, int due) {
+        Check.tells(scene, "would(0, 0)", first, x -> x.would(0, 0));
+        Check.tells(scene, "would(0, 1)", second, x -> x.would(0, 1));
+        Check.tells(scene, "would(0, 2)", third, x -> x.would(0, 2));
+        Check.tells(scene, "advise(0)", due, x -> x.advise(0));
     }
 
-    private static void theMiddleOne() {
+    private static void theMost() {
+        advises(() -> Scenes.withStore(2, 25, 100), 144, 108, 156, 2);
+        advises(() -> Scenes.withStore(2, 75, 100), 144, 108, 132, 0);
+        advises(() -> between(10, 15), 12 * 8, 12 * 9, 12 * 8, 1);
+    }
+
+    /** 12 bundles of sedge lie at 15; so many dozens were sold at 2 and at 28, three days away both. */
+    private static SedgeBarges between(int dozensAt2, int dozensAt28) {
         SedgeBarges x = new SedgeBarges();
-        x.bed(2, 9, 0);
-        x.bed(2, 9, 0);
-        x.bed(28, 9, 0);
-        x.bed(28, 9, 0);
-        x.bed(20, 1, 100);
+        x.bed(15, 1, 100);
+        x.barge(15);
         x.barge(2);
         x.barge(28);
-        x.barge(20);
         x.buy(200);
-        x.cut(4);
-        x.tie(4);
-        x.load(2, 4);
-        for (int bed = 0; bed < 4; bed++) {
+        x.cut(0);
+        x.tie(0);
+        x.load(0, 0);
+        sellDozens(x, 1, dozensAt2);
+        x.buy(100);
+        sellDozens(x, 2, dozensAt28);
+        return x;
+    }
+
+    private static void sellDozens(SedgeBarges x, int barge, int dozens) {
+        for (int left = dozens; left > 0; left -= 9) {
+            int bed = x.bed(x.told(barge, 0), Math.min(9, left), 0);
             x.cut(bed);
             x.tie(bed);
-            x.load(bed / 2, bed);
-            x.sell(bed / 2);
-            if (bed == 0) {
-                x.buy(500);
+            x.load(barge, bed);
+            x.sell(barge);
+        }
+    }
+
+    private static void asWouldHasIt() {
+        for (int days = 1; days <= 12; days++) {
+            for (int barge = 0; barge < 3; barge++) {
+                SedgeBarges x = Scenes.full();
+                x.pass(days);
+                int first = x.would(barge, 0);
+                int second = x.would(barge, 1);
+                int third = x.would(barge, 2);
+                int most = Math.max(first, Math.max(second, third));
+                int due = first == most ? 0 : second == most ? 1 : 2;
+                Check.same("advise(" + barge + ") behind " + days + " days", x.advise(barge), due);
             }
         }
-        Check.same("landing(0, 2)", x.landing(0, 2), 4);
-        Check.same("landing(1, 2)", x.landing(1, 2), 9);
-        Check.same("landing(2, 2)", x.landing(2, 2), 6);
-        // Behind 4 days it is 6 coins at 0, and behind 2 it is 7 at 2.
-        Check.tells(x, "advise(2) between full landings", 1, () -> x.advise(2));
+    }
+
+    private static void theSmallest() {
+        // 50 in store make 12 coins at 2, as many as at 0; 49 make 13, and 75 make 11.
+        advises(() -> Scenes.withStore(2, 50, 100), 144, 108, 144, 0);
+        advises(() -> Scenes.withStore(2, 49, 100), 144, 108, 156, 2);
+        advises(() -> Scenes.withStore(2, 74, 100), 144, 108, 144, 0);
+        // 120 at 0 come to 102, or 96 to 81; 156 at 2 come to 133, or 180 to 153.
+        advises(() -> between(10, 13), 12 * 8, 12 * 9, 12 * 9, 1);
+        advises(() -> between(8, 15), 12 * 9, 12 * 9, 12 * 8, 0);
+        advises(() -> between(8, 13), 12 * 9, 12 * 9, 12 * 9, 0);
+        Check.tells(Scenes::full, "advise(2) of nothing", 0, x -> x.advise(2));
+        Check.tells(Scenes::poor, "advise(0) of nothing", 0, x -> x.advise(0));
+    }
+
+    private static void nothingIsChanged() {
+        for (int barge = 0; barge < 3; barge++) {
+            int asked = barge;
+            int due = Scenes.full().advise(barge);
+            Check.tells(Scenes::full, "advise(" + barge + ") behind others", due, x -> {
+                x.advise(0);
+                x.advise(1);
+                return x.advise(asked);
+            });
+        }
+    }
+
+    private static void noSuchBarge() {
+        for (Supplier<SedgeBarges> scene : Scenes.ALL) {
+            for (int barge : Scenes.wrongNumbers(scene.get().count(7), 3)) {
+                Check.outside(scene, "advise(" + barge + ")", x -> x.advise(barge));
+            }
+        }
     }
 }
