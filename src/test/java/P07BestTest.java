@@ -47,6 +47,16 @@ public final class P07BestTest {
         };
         Check.tells(lastDay, "best(0) on the last day of the year", 2, x -> x.best(0));
         Check.tells(Scenes::busy, "best(2)", 4, x -> x.best(2));
+        Supplier<SedgeBarges> another = () -> {
+            SedgeBarges x = older(bed(9, 90), 2);
+            x.bed(20, 1, 0);
+            x.bed(30, 9, 90);
+            x.cut(0);
+            return x;
+        };
+        Check.tells(another, "best(0) when it is cut", 4, x -> x.best(0));
+        Check.tells(another, "best(1) of a small bed of reed", 0, x -> x.best(1));
+        Check.tells(another, "best(2)", 2, x -> x.best(2));
     }
 
     private static void now() {
@@ -54,6 +64,15 @@ public final class P07BestTest {
             int age = years;
             Check.tells(() -> older(bed(9, 90), age), "best(0) behind " + years + " years", 0, x -> x.best(0));
         }
+        Supplier<SedgeBarges> besideCut = () -> {
+            SedgeBarges x = new SedgeBarges();
+            x.bed(2, 9, 90);
+            x.bed(30, 9, 90);
+            older(x, 2);
+            x.cut(0);
+            return x;
+        };
+        Check.tells(besideCut, "best(1) of an old bed beside one that is cut", 0, x -> x.best(1));
         // 72 now, and 66 of 135 behind one end.
         Check.tells(() -> older(bed(9, 40), 2), "best(0) at the age of 5", 0, x -> x.best(0));
     }

@@ -50,6 +50,8 @@ public final class P12ToldTest {
         tellsAll(P12ToldTest::sold, 0, 28, 9, 0, 0, 2, 18 * 14 + 6 * 7);
         tellsAll(P12ToldTest::aDayLater, 0, 23, 9, 0, 0, -1, 294);
         tellsAll(P12ToldTest::aDayLater, 1, 15, -1, 0, 0, 1, 0);
+        tellsAll(Scenes::busy, 0, 2, 30, 16, 17, 0, 984);
+        tellsAll(Scenes::busy, 1, 18, 17, 58, 26, -1, 837);
         tellsAll(Scenes::full, 2, 9, -1, 0, 0, -1, 0);
     }
 

@@ -6,6 +6,7 @@ public final class P14WouldTest {
         Check.holds("how many coins all that is aboard would bring there", P14WouldTest::allAboard);
         Check.holds("if the barge sailed there now", P14WouldTest::sailedNow);
         Check.holds("and sold on the day on which it comes", P14WouldTest::priceOnTheDayOfComing);
+        Check.holds("barge: a barge", P14WouldTest::eachByItsOwnWay);
         Check.holds("(as sail, pass and sell have it)", P14WouldTest::asItComesTrue);
         Check.holds("(nothing is changed)", P14WouldTest::nothingIsChanged);
         Check.holds("Throws IndexOutOfBoundsException if there is no such barge", P14WouldTest::noSuchBarge);
@@ -76,6 +77,24 @@ public final class P14WouldTest {
         Check.tells(() -> gone(37, 4, 3), "would(0, 1) from 4", 12 * 8, x -> x.would(0, 1));
         // What is in store at others doesn't matter.
         Check.tells(() -> gone(640, 4, 3), "would(0, 0) from 4", 12 * 12, x -> x.would(0, 0));
+    }
+
+    /** Where the barge 0 lies at the landing 1, the barge 1 lies a day away with 12 bundles of sedge. */
+    private static SedgeBarges withSecond(int store) {
+        SedgeBarges x = Scenes.withStore(1, store, 100);
+        int bed = x.bed(10, 1, 100);
+        x.barge(10);
+        x.buy(12);
+        x.cut(bed);
+        x.tie(bed);
+        x.load(1, bed);
+        return x;
+    }
+
+    private static void eachByItsOwnWay() {
+        Check.tells(() -> withSecond(26), "would(0, 1) with 26, where it is", 12 * 8, x -> x.would(0, 1));
+        Check.tells(() -> withSecond(26), "would(1, 1) with 26, a day away", 12 * 9, x -> x.would(1, 1));
+        Check.tells(() -> withSecond(27), "would(1, 1) with 27, a day away", 12 * 8, x -> x.would(1, 1));
     }
 
     private static void asItComesTrue() {

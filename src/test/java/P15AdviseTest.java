@@ -4,6 +4,7 @@ import java.util.function.Supplier;
 public final class P15AdviseTest {
     public static void main(String[] args) {
         Check.holds("the landing where what is aboard would bring the most coins", P15AdviseTest::theMost);
+        Check.holds("barge: a barge", P15AdviseTest::ofAnotherBarge);
         Check.holds("as would() has it", P15AdviseTest::asWouldHasIt);
         Check.holds("of several the one with the smallest number", P15AdviseTest::theSmallest);
         Check.holds("(nothing is changed)", P15AdviseTest::nothingIsChanged);
@@ -49,6 +50,34 @@ public final class P15AdviseTest {
             x.load(barge, bed);
             x.sell(barge);
         }
+    }
+
+    /** The barge 0 has 12 bundles of sedge aboard, the barge 1 at the same place so many. */
+    private static SedgeBarges withSecond(int store, int size) {
+        SedgeBarges x = Scenes.withStore(2, store, 100);
+        int bed = x.bed(28, size, 100);
+        x.barge(28);
+        x.buy(12 * size);
+        x.cut(bed);
+        x.tie(bed);
+        x.load(1, bed);
+        return x;
+    }
+
+    private static void ofAnotherBarge() {
+        Check.tells(() -> withSecond(75, 2), "advise(1) with 75 at 2", 0, x -> x.advise(1));
+        Check.tells(() -> withSecond(25, 2), "advise(1) with 25 at 2", 2, x -> x.advise(1));
+        Supplier<SedgeBarges> withLess = () -> {
+            SedgeBarges x = withSecond(25, 1);
+            x.bed(28, 2, 100);
+            x.buy(24);
+            x.cut(4);
+            x.tie(4);
+            x.load(0, 4);
+            return x;
+        };
+        Check.tells(withLess, "told(0, 2)", 36, x -> x.told(0, 2));
+        Check.tells(withLess, "advise(1) with less than the other", 2, x -> x.advise(1));
     }
 
     private static void asWouldHasIt() {
