@@ -1,4 +1,5 @@
 import java.util.Random;
+import java.util.function.IntPredicate;
 import java.util.function.LongSupplier;
 
 /**
@@ -15,9 +16,13 @@ public final class ModelTest {
     // The work that fills landings: cut, buy, tie, load, sell and short times, mostly.
     private static final int[] BUSY_KINDS = {1, 1, 2, 2, 3, 7, 8, 8, 8, 9, 9, 9, 12, 13, 13, 15, 15};
 
+    // Where beds and barges of a busy run mostly are: at all landings, or at one of them and a day away from it.
+    private static final int[][] BUSY_PLACES = {{2, 15, 28}, {2, 2, 2, 7}, {15, 15, 15, 20}, {28, 28, 28, 23}};
+
     private final Random random;
     private final boolean busy;
     private final boolean watched;
+    private final int[] busyPlaces;
     private final SedgeBarges program = new SedgeBarges();
     private final Model model = new Model();
 
@@ -25,6 +30,7 @@ public final class ModelTest {
         random = new Random(seed);
         busy = seed % 3 == 0;
         watched = seed % 2 == 0;
+        busyPlaces = BUSY_PLACES[(int) (seed / 6 % BUSY_PLACES.length)];
     }
 
     public static void main(String[] args) {
@@ -44,7 +50,7 @@ public final class ModelTest {
         for (int call = 0; call < CALLS; call++) {
             int kind = kind(call);
             int a = firstArgument(kind);
-            int b = secondArgument(kind);
+            int b = secondArgument(kind, a);
             int c = mostly(0, 100);
             String got = answer(() -> ofProgram(kind, a, b, c));
             String due = answer(() -> ofModel(kind, a, b, c));
@@ -83,16 +89,42 @@ public final class ModelTest {
     /** Few places, so that beds lie near one another, and barges come to beds and landings. */
     private int place() {
         if (busy && random.nextInt(12) != 0) {
-            return new int[] {2, 15, 28}[random.nextInt(3)];
+            return busyPlaces[random.nextInt(busyPlaces.length)];
         }
         int[] near = {0, 2, 2, 4, 7, 11, 12, 15, 15, 19, 24, 28, 28, 30};
         return random.nextInt(4) == 0 ? mostly(0, 30) : near[random.nextInt(near.length)];
     }
 
+    private int anyBed() {
+        return mostly(0, Math.max(0, model.count(3) - 1));
+    }
+
+    /** In a busy run mostly a bed that the call has something to do with, if there is one. */
+    private int bedWhere(IntPredicate fits) {
+        int drawn = anyBed();
+        if (!busy || random.nextInt(8) == 0) {
+            return drawn;
+        }
+        int beds = model.count(3);
+        for (int i = 0; i < beds; i++) {
+            int bed = Math.floorMod(drawn + i, beds);
+            if (fits.test(bed)) {
+                return bed;
+            }
+        }
+        return drawn;
+    }
+
+    private boolean isBarge(int barge) {
+        return barge >= 0 && barge < model.count(7);
+    }
+
     private int firstArgument(int kind) {
         switch (kind) {
             case 0: case 6: return place();
-            case 1: case 2: case 4: case 5: return mostly(0, Math.max(0, model.count(3) - 1));
+            case 1: return bedWhere(bed -> model.about(bed, 4) > 0);
+            case 2: return bedWhere(bed -> model.about(bed, 6) + model.about(bed, 7) > 0);
+            case 4: case 5: return anyBed();
             case 3: return mostly(busy ? 400 : 1, random.nextBoolean() || busy ? 500 : 100);
             case 11: return mostly(0, 2);
             case 14: return mostly(0, 10);
@@ -102,12 +134,13 @@ public final class ModelTest {
         }
     }
 
-    private int secondArgument(int kind) {
+    private int secondArgument(int kind, int first) {
         switch (kind) {
             case 0: return mostly(busy ? 7 : 1, 9);
             case 4: return mostly(0, 9);
             case 7: return place();
-            case 8: return mostly(0, Math.max(0, model.count(3) - 1));
+            case 8: return bedWhere(bed -> isBarge(first) && model.about(bed, 0) == model.told(first, 0)
+                    && model.about(bed, 8) + model.about(bed, 9) > 0);
             case 10: return mostly(0, 5);
             case 11: return mostly(0, 3);
             case 12: return mostly(0, 2);
@@ -139,7 +172,7 @@ public final class ModelTest {
             case 11: return program.landing(a, b);
             case 12: return program.would(a, b);
             case 13: return program.advise(a);
-            case 14: return model.count(a);
+            case 14: return program.count(a);
             case 15: return program.pass(a);
             case 16: return program.foresee(a, b);
             case 17: return Double.doubleToLongBits(program.mean());

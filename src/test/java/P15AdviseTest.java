@@ -6,6 +6,7 @@ public final class P15AdviseTest {
         Check.holds("the landing where what is aboard would bring the most coins", P15AdviseTest::theMost);
         Check.holds("barge: a barge", P15AdviseTest::ofAnotherBarge);
         Check.holds("as would() has it", P15AdviseTest::asWouldHasIt);
+        Check.holds("as would() has it (on the day of coming, not now)", P15AdviseTest::asOnTheDayOfComing);
         Check.holds("of several the one with the smallest number", P15AdviseTest::theSmallest);
         Check.holds("(nothing is changed)", P15AdviseTest::nothingIsChanged);
         Check.holds("Throws IndexOutOfBoundsException if there is no such barge", P15AdviseTest::noSuchBarge);
@@ -25,31 +26,37 @@ public final class P15AdviseTest {
         advises(() -> between(10, 15), 12 * 8, 12 * 9, 12 * 8, 1);
     }
 
-    /** 12 bundles of sedge lie at 15; so many dozens were sold at 2 and at 28, three days away both. */
-    private static SedgeBarges between(int dozensAt2, int dozensAt28) {
+    /** The barge 0 has 12 bundles of sedge aboard; the barges 1 and 2 are at 2 and at 28. */
+    private static SedgeBarges laden(int place) {
         SedgeBarges x = new SedgeBarges();
-        x.bed(15, 1, 100);
-        x.barge(15);
+        x.bed(place, 1, 100);
+        x.barge(place);
         x.barge(2);
         x.barge(28);
-        x.buy(200);
         x.cut(0);
         x.tie(0);
         x.load(0, 0);
-        sellDozens(x, 1, dozensAt2);
-        x.buy(100);
-        sellDozens(x, 2, dozensAt28);
         return x;
     }
 
     private static void sellDozens(SedgeBarges x, int barge, int dozens) {
         for (int left = dozens; left > 0; left -= 9) {
-            int bed = x.bed(x.told(barge, 0), Math.min(9, left), 0);
+            int size = Math.min(9, left);
+            int bed = x.bed(x.told(barge, 0), size, 0);
+            x.buy(12 * size);
             x.cut(bed);
             x.tie(bed);
             x.load(barge, bed);
             x.sell(barge);
         }
+    }
+
+    /** At 15, three days from 2 and from 28, where so many dozens were sold. */
+    private static SedgeBarges between(int dozensAt2, int dozensAt28) {
+        SedgeBarges x = laden(15);
+        sellDozens(x, 1, dozensAt2);
+        sellDozens(x, 2, dozensAt28);
+        return x;
     }
 
     /** The barge 0 has 12 bundles of sedge aboard, the barge 1 at the same place so many. */
@@ -93,6 +100,25 @@ public final class P15AdviseTest {
                 Check.same("advise(" + barge + ") behind " + days + " days", x.advise(barge), due);
             }
         }
+    }
+
+    private static void asOnTheDayOfComing() {
+        // 60 at 2 make 12 coins now, as many as at 0, and come to 48 in four days.
+        advises(() -> {
+            SedgeBarges x = laden(8);
+            sellDozens(x, 2, 5);
+            return x;
+        }, 144, 108, 156, 2);
+        // 184 at 0 come to 174 in a day, 84 at 1 to 71 in three, and 252 at 2 to 183 in six.
+        advises(() -> {
+            SedgeBarges x = laden(0);
+            sellDozens(x, 1, 18);
+            x.sail(1, 15);
+            x.pass(3);
+            sellDozens(x, 1, 7);
+            sellDozens(x, 2, 21);
+            return x;
+        }, 12 * 6, 12 * 7, 12 * 7, 1);
     }
 
     private static void theSmallest() {
