@@ -100,6 +100,9 @@ public final class P07BestTest {
         // 99 behind one end, and behind two 100, as by then the other has 72.
         Check.tells(() -> besideReed(100, 6, 70), "best(0) with 30 more", 2, x -> x.best(0));
         Check.tells(() -> besideReed(100, 6, 71), "best(0) with 29 more", 1, x -> x.best(0));
+        // 99 behind one end, when the other has 70 or 69: it is 29 or 30 more.
+        Check.tells(() -> besideReed(100, 6, 68), "best(0) with 32 more", 2, x -> x.best(0));
+        Check.tells(() -> besideReed(100, 6, 67), "best(0) with 33 more", 1, x -> x.best(0));
         Supplier<SedgeBarges> eight = () -> {
             SedgeBarges x = new SedgeBarges();
             for (int bed = 0; bed < 8; bed++) {

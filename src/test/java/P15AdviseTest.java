@@ -119,6 +119,13 @@ public final class P15AdviseTest {
             sellDozens(x, 2, 21);
             return x;
         }, 12 * 6, 12 * 7, 12 * 7, 1);
+        // 60 at 0 make 10 coins now and come to 45 in five days, 84 at 2 to 79 in one.
+        advises(() -> {
+            SedgeBarges x = laden(27);
+            sellDozens(x, 1, 5);
+            sellDozens(x, 2, 7);
+            return x;
+        }, 12 * 11, 12 * 9, 12 * 11, 0);
     }
 
     private static void theSmallest() {
